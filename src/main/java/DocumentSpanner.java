@@ -39,7 +39,7 @@ public final class DocumentSpanner {
 
     // ---- document ----
 
-    public int appendLetter(int letter) {
+    public int appendLetter(int letter) throws IllegalArgumentException, IllegalStateException {
         if (letter < 'a' || letter > 'z') {
             throw new IllegalArgumentException("a letter is 97 to 122");
         }
@@ -59,7 +59,7 @@ public final class DocumentSpanner {
         return previous;
     }
 
-    public int letter(int position) {
+    public int letter(int position) throws IndexOutOfBoundsException {
         if (position < 0 || position >= state.length) {
             throw new IndexOutOfBoundsException("no letter at this position");
         }
@@ -75,7 +75,7 @@ public final class DocumentSpanner {
 
     // ---- formula ----
 
-    public int appendCharacter(int character) {
+    public int appendCharacter(int character) throws IllegalArgumentException, IllegalStateException {
         if (character < 33 || character > 126) {
             throw new IllegalArgumentException("a character is 33 to 126");
         }
@@ -87,7 +87,7 @@ public final class DocumentSpanner {
         return bufferLength;
     }
 
-    public int parse() {
+    public int parse() throws IllegalArgumentException {
         int count = bufferLength;
         bufferLength = 0;
         faultPosition = Syntax.firstFault(buffer, count);
@@ -102,11 +102,11 @@ public final class DocumentSpanner {
         return faultPosition;
     }
 
-    public int formulaVariables() {
+    public int formulaVariables() throws IllegalStateException {
         return currentFormula().mentioned;
     }
 
-    public int formulaKind() {
+    public int formulaKind() throws IllegalStateException {
         return currentFormula().kind;
     }
 
@@ -118,7 +118,7 @@ public final class DocumentSpanner {
         return formula;
     }
 
-    public int extract(int to) {
+    public int extract(int to) throws IndexOutOfBoundsException, IllegalStateException {
         checkSlot(to);
         Formula formula = currentFormula();
         result.empty();
@@ -128,19 +128,19 @@ public final class DocumentSpanner {
 
     // ---- tables ----
 
-    public int size(int slot) {
+    public int size(int slot) throws IndexOutOfBoundsException, IllegalStateException {
         return tableIn(slot).count;
     }
 
-    public int start(int slot, int row, int variable) {
+    public int start(int slot, int row, int variable) throws IndexOutOfBoundsException, IllegalStateException {
         return Mapping.startOf(spanAt(slot, row, variable));
     }
 
-    public int end(int slot, int row, int variable) {
+    public int end(int slot, int row, int variable) throws IndexOutOfBoundsException, IllegalStateException {
         return Mapping.endOf(spanAt(slot, row, variable));
     }
 
-    public int domain(int slot) {
+    public int domain(int slot) throws IndexOutOfBoundsException, IllegalStateException {
         SortedInts table = tableIn(slot);
         int variables = 0;
         for (int row = 0; row < table.count; row++) {
@@ -149,7 +149,7 @@ public final class DocumentSpanner {
         return variables;
     }
 
-    public int clear(int slot) {
+    public int clear(int slot) throws IndexOutOfBoundsException {
         checkSlot(slot);
         int rows = state.filled[slot] ? state.tables[slot].count : NONE;
         state.filled[slot] = false;
@@ -208,7 +208,7 @@ public final class DocumentSpanner {
 
     // ---- algebra ----
 
-    public int union(int a, int b, int to) {
+    public int union(int a, int b, int to) throws IndexOutOfBoundsException, IllegalStateException {
         checkSlots(a, b, to);
         SortedInts first = tableIn(a);
         SortedInts second = tableIn(b);
@@ -219,7 +219,7 @@ public final class DocumentSpanner {
         return storeResult(to);
     }
 
-    public int join(int a, int b, int to) {
+    public int join(int a, int b, int to) throws IndexOutOfBoundsException, IllegalStateException {
         checkSlots(a, b, to);
         SortedInts first = tableIn(a);
         SortedInts second = tableIn(b);
@@ -240,7 +240,7 @@ public final class DocumentSpanner {
         }
     }
 
-    public int minus(int a, int b, int to) {
+    public int minus(int a, int b, int to) throws IndexOutOfBoundsException, IllegalStateException {
         checkSlots(a, b, to);
         SortedInts first = tableIn(a);
         SortedInts second = tableIn(b);
@@ -253,7 +253,7 @@ public final class DocumentSpanner {
         return storeResult(to);
     }
 
-    public int antijoin(int a, int b, int to) {
+    public int antijoin(int a, int b, int to) throws IndexOutOfBoundsException, IllegalStateException {
         checkSlots(a, b, to);
         SortedInts first = tableIn(a);
         SortedInts second = tableIn(b);
@@ -281,7 +281,8 @@ public final class DocumentSpanner {
         checkSlot(to);
     }
 
-    public int project(int a, int variables, int to) {
+    public int project(int a, int variables, int to)
+            throws IndexOutOfBoundsException, IllegalArgumentException, IllegalStateException {
         checkSlot(a);
         checkSlot(to);
         if (variables < 0 || variables >= VARIABLE_SETS) {
@@ -296,7 +297,7 @@ public final class DocumentSpanner {
         return storeResult(to);
     }
 
-    public int exchange(int a, int u, int v, int to) {
+    public int exchange(int a, int u, int v, int to) throws IndexOutOfBoundsException, IllegalStateException {
         checkSelection(a, u, v, to);
         SortedInts table = tableIn(a);
         result.empty();
@@ -306,7 +307,7 @@ public final class DocumentSpanner {
         return storeResult(to);
     }
 
-    public int selectEqual(int a, int u, int v, int to) {
+    public int selectEqual(int a, int u, int v, int to) throws IndexOutOfBoundsException, IllegalStateException {
         checkSelection(a, u, v, to);
         SortedInts table = tableIn(a);
         result.empty();
@@ -338,7 +339,8 @@ public final class DocumentSpanner {
         return true;
     }
 
-    public int selectLength(int a, int u, int least, int most, int to) {
+    public int selectLength(int a, int u, int least, int most, int to)
+            throws IndexOutOfBoundsException, IllegalStateException {
         checkSelection(a, u, u, to);
         SortedInts table = tableIn(a);
         result.empty();
@@ -352,7 +354,8 @@ public final class DocumentSpanner {
         return storeResult(to);
     }
 
-    public int selectRelation(int a, int u, int v, int relation, int to) {
+    public int selectRelation(int a, int u, int v, int relation, int to)
+            throws IndexOutOfBoundsException, IllegalArgumentException, IllegalStateException {
         checkSelection(a, u, v, to);
         if (relation < 0 || relation >= RELATIONS) {
             throw new IllegalArgumentException("a relation is 0 to 3");
@@ -376,7 +379,7 @@ public final class DocumentSpanner {
         checkVariable(v);
     }
 
-    public boolean contained(int a, int b) {
+    public boolean contained(int a, int b) throws IndexOutOfBoundsException, IllegalStateException {
         checkSlot(a);
         checkSlot(b);
         SortedInts first = tableIn(a);
@@ -391,7 +394,7 @@ public final class DocumentSpanner {
 
     // ---- splitting ----
 
-    public boolean disjoint(int slot) {
+    public boolean disjoint(int slot) throws IndexOutOfBoundsException, IllegalStateException {
         SortedInts table = tableIn(slot);
         int last = Mapping.UNDEFINED;
         // The rows ascend by X, so each chunk need only be held against the one before it.
@@ -408,7 +411,7 @@ public final class DocumentSpanner {
         return true;
     }
 
-    public int extractSplit(int splitter, int to) {
+    public int extractSplit(int splitter, int to) throws IndexOutOfBoundsException, IllegalStateException {
         checkSlot(splitter);
         checkSlot(to);
         SortedInts chunks = tableIn(splitter);
@@ -418,7 +421,7 @@ public final class DocumentSpanner {
         return storeResult(to);
     }
 
-    public boolean splitCorrect(int splitter) {
+    public boolean splitCorrect(int splitter) throws IndexOutOfBoundsException, IllegalStateException {
         SortedInts chunks = tableIn(splitter);
         Formula formula = currentFormula();
         wholeResult.empty();
@@ -441,18 +444,18 @@ public final class DocumentSpanner {
 
     // ---- cursor ----
 
-    public int openCursor(int slot) {
+    public int openCursor(int slot) throws IndexOutOfBoundsException, IllegalStateException {
         SortedInts table = tableIn(slot);
         cursorSlot = slot;
         cursorPlace = 0;
         return table.count;
     }
 
-    public int cursorRow() {
+    public int cursorRow() throws IllegalStateException {
         return rowAtCursor(cursorTable());
     }
 
-    public int advance(int rows) {
+    public int advance(int rows) throws IllegalArgumentException, IllegalStateException {
         if (rows < 0) {
             throw new IllegalArgumentException("the number of rows is negative");
         }
@@ -461,7 +464,7 @@ public final class DocumentSpanner {
         return rowAtCursor(table);
     }
 
-    public int skipTo(int position) {
+    public int skipTo(int position) throws IllegalStateException {
         SortedInts table = cursorTable();
         int place = cursorPlace;
         while (place < table.count && !startsFrom(table.values[place], position)) {
@@ -489,32 +492,32 @@ public final class DocumentSpanner {
 
     // ---- scores ----
 
-    public int setWeight(int variable, int weight) {
+    public int setWeight(int variable, int weight) throws IndexOutOfBoundsException {
         checkVariable(variable);
         int previous = state.weights[variable];
         state.weights[variable] = weight;
         return previous;
     }
 
-    public int score(int slot, int row) {
+    public int score(int slot, int row) throws IndexOutOfBoundsException, IllegalStateException, ArithmeticException {
         SortedInts table = tableIn(slot);
         checkRow(table, row);
         return scoreOf(table.values[row]);
     }
 
-    public int classes(int slot) {
+    public int classes(int slot) throws IndexOutOfBoundsException, IllegalStateException, ArithmeticException {
         scoreRows(tableIn(slot));
         return scoreLevels.count;
     }
 
-    public int rank(int slot, int row) {
+    public int rank(int slot, int row) throws IndexOutOfBoundsException, IllegalStateException, ArithmeticException {
         SortedInts table = tableIn(slot);
         checkRow(table, row);
         scoreRows(table);
         return scoreLevels.count - 1 - scoreLevels.placeOf(scores[row]);
     }
 
-    public int best(int slot, int index) {
+    public int best(int slot, int index) throws IndexOutOfBoundsException, IllegalStateException, ArithmeticException {
         SortedInts table = tableIn(slot);
         checkRow(table, index);
         scoreRows(table);
@@ -532,7 +535,7 @@ public final class DocumentSpanner {
         return NONE;
     }
 
-    public int total(int slot) {
+    public int total(int slot) throws IndexOutOfBoundsException, IllegalStateException, ArithmeticException {
         SortedInts table = tableIn(slot);
         int sum = 0;
         for (int row = 0; row < table.count; row++) {
@@ -577,7 +580,7 @@ public final class DocumentSpanner {
         return state.countTables();
     }
 
-    public int restore() {
+    public int restore() throws IllegalStateException {
         if (!isKept) {
             throw new IllegalStateException("nothing was saved");
         }
