@@ -1213,18 +1213,19 @@ public final class DocumentSpanner {
             }
         }
 
-        /** Enters every set with one mark more that can be reached, and returns the length of the queue. */
+        /**
+         * Enters every set with one mark more that can be reached, and returns the length of the queue. No
+         * mark is made twice: a symbol that would open a used variable again is not alive.
+         */
         private int addMarks(int position, long here, int used, int marks, int queued) {
             int count = queued;
             for (int mark = 0; mark < 2 * VARIABLES; mark++) {
                 long symbols = here & formula.markers[mark];
-                int more = marks | 1 << mark;
-                int usedThen = used | openedBy(more);
-                boolean isRepeated = mark < VARIABLES && ((used | marks) >> mark & 1) != 0;
-                if (symbols == 0L || isRepeated || more == marks) {
+                if (symbols == 0L) {
                     continue;
                 }
-                long next = formula.followersOf(symbols) & alive[position][usedThen];
+                int more = marks | 1 << mark;
+                long next = formula.followersOf(symbols) & alive[position][used | openedBy(more)];
                 if (next != 0L && reached[position][more] == 0L && count < MARK_SETS) {
                     queues[position][count] = more;
                     count++;

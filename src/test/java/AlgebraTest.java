@@ -12,6 +12,7 @@ public final class AlgebraTest {
         unions();
         joins();
         limits();
+        fullTables();
         differences();
         antijoins();
         projections();
@@ -86,6 +87,29 @@ public final class AlgebraTest {
         CHECK.same("a join counts each mapping once", x.join(2, 2, 4), 200);
     }
 
+    private static void fullTables() {
+        DocumentSpanner x = two("aaaaaaaa", "X{.*}Y{.*}Z{.*}.*|X{.*}(Y{.*}|).*aa", "X{.*}.*");
+        CHECK.same("rows", x.size(0), 200);
+        CHECK.same("domain", x.domain(0), 7);
+        CHECK.same("minus", x.minus(0, 0, 2), 0);
+        CHECK.same("minus others", x.minus(0, 1, 2), 193);
+        CHECK.same("antijoin", x.antijoin(0, 0, 2), 0);
+        CHECK.same("antijoin with others", x.antijoin(0, 1, 2), 0);
+        CHECK.same("project", x.project(0, 7, 2), 200);
+        CHECK.same("exchange", x.exchange(0, 0, 2, 2), 200);
+        CHECK.same("selectEqual", x.selectEqual(0, 0, 0, 2), 200);
+        CHECK.same("selectLength", x.selectLength(0, 0, 0, 8, 2), 200);
+        CHECK.same("selectRelation", x.selectRelation(0, 0, 0, 1, 2), 200);
+        CHECK.yes("contained", x.contained(0, 2) && x.contained(2, 0));
+        CHECK.yes("the X spans overlap", !x.disjoint(2));
+        x.openCursor(2);
+        CHECK.same("skipTo", x.skipTo(1), -1);
+        Spanner.extract(x, "aX{.}.*", 1);
+        CHECK.no("a row behind the last one", x.contained(1, 0));
+        Spanner.extract(x, ".*", 1);
+        CHECK.no("a row before the first one", x.contained(1, 0));
+    }
+
     private static void differences() {
         DocumentSpanner x = two("ab", "X{.*}.*|ab|Y{ab}", "X{a}b|Y{ab}|Z{ab}");
         rows(x, "minus", x.minus(0, 1, 2), 2, "-; X00; X02");
@@ -129,6 +153,7 @@ public final class AlgebraTest {
             CHECK.raises(IllegalArgumentException.class, "project: variables", () -> y.project(0, wrong, 1));
             CHECK.raises(IllegalArgumentException.class, "before the table", () -> y.project(5, wrong, 1));
             CHECK.raises(IndexOutOfBoundsException.class, "behind the slots", () -> y.project(0, wrong, 6));
+            CHECK.raises(IndexOutOfBoundsException.class, "behind the slots", () -> y.project(6, wrong, 0));
         }
     }
 
@@ -191,6 +216,8 @@ public final class AlgebraTest {
             CHECK.raises(IllegalArgumentException.class, "relation", () -> y.selectRelation(0, 0, 1, wrong, 1));
             CHECK.raises(IllegalArgumentException.class, "before the table", () -> y.selectRelation(5, 0, 1, wrong, 1));
             CHECK.raises(IndexOutOfBoundsException.class, "behind the slots", () -> y.selectRelation(0, 0, 1, wrong, 6));
+            CHECK.raises(IndexOutOfBoundsException.class, "behind the slots", () -> y.selectRelation(6, 0, 1, wrong, 0));
+            CHECK.raises(IndexOutOfBoundsException.class, "behind the variables", () -> y.selectRelation(0, 3, 0, wrong, 0));
             CHECK.raises(IndexOutOfBoundsException.class, "behind the variables", () -> y.selectRelation(0, 0, 3, wrong, 0));
         }
     }

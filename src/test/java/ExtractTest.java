@@ -65,7 +65,10 @@ public final class ExtractTest {
         table("ab", ".*X{.*}.*", "X00; X01; X02; X11; X12; X22");
         table("ab", "X{a}Y{b}", "X01 Y12");
         table("ab", "X{aY{b}}", "X02 Y12");
-        table("ab", "X{Y{Z{ab}}}", "X02 Y02 Z02");
+        for (String nested : new String[] {"X{Y{Z{", "X{Z{Y{", "Y{X{Z{", "Y{Z{X{", "Z{X{Y{", "Z{Y{X{"}) {
+            table("ab", nested + "ab}}}", "X02 Y02 Z02");
+            table("ab", "a" + nested + "}}}b", "X11 Y11 Z11");
+        }
         table("ab", "X{a|ab}b?", "X01; X02");
         table("a", "X{a}|Y{a}", "Y01; X01");
         table("a", "X{a}|a", "-; X01");

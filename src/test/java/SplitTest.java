@@ -70,6 +70,9 @@ public final class SplitTest {
         String twoHundred = "X{.*}Y{.*}Z{.*}.*|X{.*}(Y{.*}|).*aa";
         Spanner.formula(x, twoHundred);
         CHECK.same("200 rows", x.extractSplit(0, 1), 200);
+        Spanner.formula(x, "Y{.*}");
+        CHECK.same("9 chunks from 200 rows", x.extractSplit(1, 2), 9);
+        CHECK.same("each once", Spanner.rows(x, 2), "Y00; Y01; Y02; Y03; Y04; Y05; Y06; Y07; Y08");
         Spanner.formula(x, twoHundred + "|.*");
         x.openCursor(1);
         CHECK.raises(IllegalStateException.class, "201 rows", () -> x.extractSplit(0, 1));
@@ -123,6 +126,10 @@ public final class SplitTest {
         correct("abab", "Y{.*}", "ba", true);
         correct("abab", "Y{.*}", "Y{.*}", false);
         correct("", "X{}", "X{.*}", true);
+        for (String variable : new String[] {"X", "Y", "Z"}) {
+            correct("aa", "X{.}.", ".*" + variable + "{.}", false);
+            correct("aa", ".X{.}", ".*" + variable + "{.}", true);
+        }
     }
 
     private static void correctnessWithoutLimit() {
@@ -144,5 +151,8 @@ public final class SplitTest {
         CHECK.same("the splitter stays", x.size(0), 45);
         Spanner.formula(x, "X{a*}a*");
         CHECK.same("later results are not touched", x.extract(1), 9);
+        Spanner.extract(x, "X{.*}", 0);
+        Spanner.formula(x, "X{a}a*");
+        CHECK.yes("nor later comparisons", x.splitCorrect(0));
     }
 }
