@@ -1,15 +1,30 @@
 /** Counts the answers of one test that are not as due, and prints them. */
 final class Check {
+    static final Class<IllegalArgumentException> ARGUMENT = IllegalArgumentException.class;
+    static final Class<IllegalStateException> STATE = IllegalStateException.class;
+    static final Class<IndexOutOfBoundsException> INDEX = IndexOutOfBoundsException.class;
+    static final Class<ArithmeticException> ARITHMETIC = ArithmeticException.class;
+
     interface Call {
         long answer();
     }
 
     private final String name;
+    private String about = "";
     private int checked = 0;
     private int wrong = 0;
 
     Check(String name) {
         this.name = name;
+    }
+
+    /** What the checks from here on are about; a fault tells it. */
+    void about(String text) {
+        about = text;
+    }
+
+    int checked() {
+        return checked;
     }
 
     void same(String what, long got, long due) {
@@ -49,7 +64,7 @@ final class Check {
 
     void fault(String text) {
         wrong++;
-        System.out.println(name + ": " + text);
+        System.out.println(name + ": " + (about.isEmpty() ? "" : about + ": ") + text);
     }
 
     /** Ends the test: exit code 1 if anything was wrong, or nothing was checked. */

@@ -1,5 +1,17 @@
 /** Short ways to feed a DocumentSpanner with texts and to show its tables. */
 final class Spanner {
+    static final int[] NO_SLOTS = {-1, 6, 256, Integer.MAX_VALUE, Integer.MIN_VALUE};
+    static final int[] NO_VARIABLES = {-1, 3, 256, Integer.MAX_VALUE, Integer.MIN_VALUE};
+
+    static final String EIGHT = "aaaaaaaa";
+    /**
+     * A full table on EIGHT, 200 rows: 165 ways to end X, Y and Z one after the other, 28 for X and Y
+     * within the first 6 letters, 7 for X alone. Row 0 is X00, row 199 is X08 Y88 Z88.
+     */
+    static final String FULL = "X{.*}Y{.*}Z{.*}.*|X{.*}(Y{.*}|).*aa";
+    /** FULL and the empty mapping: 201 rows. */
+    static final String OVERFULL = FULL + "|.*";
+
     static DocumentSpanner with(String document) {
         DocumentSpanner x = new DocumentSpanner();
         document(x, document);
