@@ -145,21 +145,18 @@ final class Reference {
         }
 
         private TreeSet<Long> sequence(List<Node> items, int i, int j) {
-            TreeSet<Long> all = new TreeSet<>();
-            if (items.isEmpty()) {
-                if (i == j) {
-                    all.add(0L);
+            // For each end k: what the items so far match from i to k.
+            Map<Integer, TreeSet<Long>> ends = Map.of(i, new TreeSet<>(List.of(0L)));
+            for (Node item : items) {
+                Map<Integer, TreeSet<Long>> next = new HashMap<>();
+                for (Map.Entry<Integer, TreeSet<Long>> end : ends.entrySet()) {
+                    for (int k = end.getKey(); k <= j; k++) {
+                        addPairs(end.getValue(), match(item, end.getKey(), k), next.computeIfAbsent(k, n -> new TreeSet<>()));
+                    }
                 }
-                return all;
+                ends = next;
             }
-            if (items.size() == 1) {
-                return match(items.get(0), i, j);
-            }
-            Node rest = new Node(',', items.subList(1, items.size()).toArray(new Node[0]));
-            for (int k = i; k <= j; k++) {
-                addPairs(match(items.get(0), i, k), match(rest, k, j), all);
-            }
-            return all;
+            return ends.getOrDefault(j, new TreeSet<>());
         }
 
         private TreeSet<Long> copies(Node star, int i, int j) {
