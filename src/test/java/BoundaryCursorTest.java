@@ -140,6 +140,11 @@ public final class BoundaryCursorTest {
         twice.advance(MAX);
         twice.advance(MAX);
         CHECK.same("twice as far as can be", twice.advance(2), -1);
+        // A place that went on behind the last row would pass the greatest int here.
+        DocumentSpanner doubled = open(0, 199);
+        for (int rows = 1; rows > 0; rows *= 2) {
+            CHECK.same("from row 199 on by " + rows + " more", doubled.advance(rows), -1);
+        }
         DOC.says("rows: the number of rows, 0 or more");
         CHECK.same("0 at the first row", open(0, 0).advance(0), 0);
         CHECK.same("0 at the last row", open(0, 199).advance(0), 199);

@@ -209,6 +209,11 @@ public final class BoundarySplitTest {
         correct(true, chunks("X{.*}", "X{}.*"), "X{.*}Y{.*}Z{.*}.*");
         correct(false, chunks("X{.*}", "X{}.*"), ".+X{.*}Y{.*}Z{.*}.*|");
         correct(false, chunks("X{.......}."), "X{.*}Y{.*}Z{.*}.*");
+        // The first and the last mappings in the order, each the only one that the split result lacks.
+        correct(false, chunks(), ".*Z{}");
+        correct(false, chunks(), "X{}Y{}Z{}.*");
+        correct(false, chunks(), ".*X{}Y{}");
+        correct(false, chunks(), ".*X{}Y{}Z{}");
         DOC.says("Throws IndexOutOfBoundsException if splitter is not a slot");
         for (int wrong : Spanner.NO_SLOTS) {
             CHECK.raises(Check.INDEX, "splitter " + wrong, () -> x.splitCorrect(wrong) ? 1 : 0);
